@@ -277,10 +277,7 @@ public final class BridgePairs {
             return NONE;
         }
         int length = ways.search(now, person, quarter);
-        if (k == -1) {
-            return length;
-        }
-        return k < length ? ways.stepAt(k) : NOT_ANY;
+        return k == -1 ? length : ways.stepAt(k);
     }
 
     public int sisters(int person, int quarter) {
@@ -996,8 +993,11 @@ public final class BridgePairs {
             return length;
         }
 
-        /** The k-th bridge of the way that the latest search found. */
+        /** The k-th bridge of the way that the latest search found; NOT_ANY: it has fewer. */
         int stepAt(int k) {
+            if (k < 0 || k >= length) {
+                return NOT_ANY;
+            }
             int place = tail - 1;
             for (int i = length - 1; i > k; i--) {
                 place = link[place] / BRIDGES;

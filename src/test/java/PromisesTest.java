@@ -249,6 +249,11 @@ public final class PromisesTest {
         due("empty", city(""), -10);
         due("no word", city("x"), -10);
         due("word", city("dork 1"), -11);
+        for (String end : new String[] {"d", "dark", "dark ", "grant", "grant ", "bar 1 p", "bar 1 p=", "bar 1 !", "bar 1 (",
+            "bar 1 p=1&", "bar 1 p=1|", "bar 1 (p=1)&", "dark 1;b"}) {
+            due(end, city(end), -10 - end.length());
+        }
+        due("sign 0", city("bar 1 p=1" + (char) 0), -19);
         due("two blanks", city("dark  1"), -15);
         due("two digits", city("dark 10"), 0);
         due("three digits", city("dark 100"), -17);
@@ -282,7 +287,13 @@ public final class PromisesTest {
         due("the one that held holds", y.told(1), 7);
         due("the text is empty", y.count(6), 0);
         due("cities", y.count(2), 1);
-        due("next", city(y, "bar 1 p=1"), 1);
+        due("fault", city(y, "grant 50 p=0;;"), -23);
+        due("next", city(y, "bar 1 p<0|p=1"), 1);
+        y.bridge(0, 1);
+        y.one(0, 0, 0);
+        y.one(0, 0, 0);
+        due("nothing of a fault stays", y.of(0, 10), 3);
+        due("the city is barred to 1", y.of(1, 10), 2);
         due("without dark", y.told(1), 0);
     }
 
@@ -389,6 +400,16 @@ public final class PromisesTest {
         due("none", x.sisters(0, 6), -1);
         due("none", x.sisters(1, 0), -1);
         due("nothing is changed", x.span(0, 2), 1);
+        BridgePairs y = bridges(4, 5, 5, 3, 0, 1, 3, 5, 3, 4, 1, 2, 0, 3, 1, 2);
+        y.one(0, 0, 0);
+        due("2 and 5 by 2 and 4", y.sisters(0, 2), 24);
+        y.lose(5, true);
+        due("2 and 7 by 2 and 6", y.sisters(0, 2), 26);
+        BridgePairs z = bridges(4, 5, 0, 1, 4, 5, 1, 2);
+        z.one(0, 0, 0);
+        due("1 gets 3 by 0 and 3", z.sisters(0, 2), 3);
+        z.swap(0, 2);
+        due("1 gets 3 by 0", z.sisters(0, 2), 1);
         x.swap(0, 2);
         due("as it is", x.way(0, 2, -1), 2);
         due("none is less", x.sisters(0, 2), -5);
@@ -429,6 +450,18 @@ public final class PromisesTest {
         due("none", x.from(2), -1);
         due("none", x.from(-1), -1);
         due("nothing is changed", x.of(0, 2), 0);
+        x.see(-1, 0, 0);
+        x.see(0, 0, 0);
+        x.see(0, 1, 1);
+        x.see(0, 2, 2);
+        x.image();
+        x.see(-1, 0, 0);
+        x.see(0, 0, 4);
+        x.see(0, 0, 4);
+        x.see(0, 0, 4);
+        due("otherwise", x.from(0), 16);
+        x.undo();
+        due("as in the image", x.from(0), 1);
     }
 
     static void promise20() {
@@ -577,6 +610,10 @@ public final class PromisesTest {
         due("of several", x.judge(0, 4), 0);
         due("none", x.judge(6, 0), -1);
         due("none", x.judge(-1, 0), -1);
+        BridgePairs alone = roadWith(0, 0);
+        alone.tape(0, 1, 1);
+        alone.item(0, 0, 3);
+        due("one alone", alone.judge(0, 0), 0);
         for (int sort : new int[] {0, 2, 3, 4}) {
             x.tape(1, sort, 5);
             due("cast", x.judge(1, -1), -12);
@@ -614,7 +651,12 @@ public final class PromisesTest {
         x.plan(0, 0);
         x.book(0, 0);
         due("image", x.image(), 1);
-        x.one(0, 0, 0);
+        x.one(6, 0, 0);
+        x.row(1, 1, 5);
+        x.errand(1, 5);
+        x.row(1, 0, 9);
+        due("half", x.cross(1, 0), 1);
+        x.cross(0, 1);
         x.bridge(0, 5);
         x.errand(0, -1);
         x.row(0, 0, 1);
@@ -628,6 +670,10 @@ public final class PromisesTest {
         x.see(-1, 0, 0);
         x.plan(-1, 0);
         x.book(-1, 0);
+        x.see(1, 5, 5);
+        x.plan(3, 1);
+        x.plan(3, 1);
+        x.book(1, 5);
         x.feed(100);
         x.tape(2, 0, 2);
         for (int again = 0; again < 2; again++) {
@@ -643,6 +689,10 @@ public final class PromisesTest {
             due("at", x.of(0, 2), 1);
             due("half", x.of(0, 5), 1);
             due("seen, plan, book", x.count(3) * 100 + x.count(4) * 10 + x.count(5), 111);
+            due("what is seen", x.from(0), 2);
+            due("the plan", x.ends(1), 1);
+            due("the book", x.looked(), -5);
+            due("said", x.of(0, 3), 0);
             due("row", x.row(0, 0, 7), 7);
             due("row", x.row(0, 1, 0), 0);
         }
@@ -685,6 +735,9 @@ public final class PromisesTest {
         due("no such act", x.act(0, 3, 7), 0);
         due("no trace then", x.trace(0), -1);
         due("no such act", x.act(0, -1, 7), 0);
+        x.act(0, 0, 7);
+        due("no such act", x.act(1, 3, 7), 0);
+        due("no trace then", x.count(7), 0);
         BridgePairs y = new BridgePairs();
         y.one(3, 5, 0);
         due("debtor tells", y.act(0, 2, 7), (7 - 5) * 2 + 1 - 5);
@@ -870,6 +923,9 @@ public final class PromisesTest {
         due("3 and 5", x.of(0, 11), 4);
         due("3 less 2", x.of(0, 12), 0);
         due("3 less 2 and 50", x.of(0, 13), 25);
+        city(x, "grant 20 p=0&(p=0|p<0)");
+        due("p is not below 0", x.of(0, 10), 11);
+        letters();
         BridgePairs y = bridges(0, 1, 1, 2, 1, 0, 0, 2, 0, 2, 0, 1, 0, 3);
         y.one(4, 9, 0);
         y.one(3, 0, 0);
@@ -883,6 +939,23 @@ public final class PromisesTest {
         due("none to cross", y.of(0, 8), 0);
         y.cross(1, 2);
         due("a debtor with two", y.of(1, 10), -1);
+    }
+
+    private static void letters() {
+        BridgePairs x = bridges(0, 1, 0, 1, 0, 1, 0, 1, 0, 1, 0, 1, 0, 1, 0, 1);
+        for (int kind : new int[] {6, 5, 4, 1}) x.one(kind, kind + 2, 0);
+        for (int b = 0; b < 8; b++) {
+            due("a lover", x.of(3, 10 + b), b % 2 == 0 ? 6 : 1);
+            due("an envoy", x.of(2, 10 + b), b % 2 == 0 ? 9 : 4);
+        }
+        city(x, "grant 40 p=1&v=7&k=5&n=0&b=6;grant 20 p=0&v=8&k=6&n=2&b=4");
+        due("a widow", x.of(1, 16), 43 / 2 + 2);
+        due("a widow", x.of(1, 15), 3);
+        for (int part = 0; part < 4; part++) x.row(0, part, 5 + part);
+        x.cross(0, 0);
+        x.cross(0, 2);
+        due("two are half", x.of(0, 5), 5);
+        for (int b = 0; b < 8; b++) due("told", x.of(0, 10 + b), (b == 4 ? 23 : 3) - 2 * 2 + 5 + b % 4 - 4);
     }
 
     private static void dark() {
@@ -902,6 +975,20 @@ public final class PromisesTest {
         due("a way now", x.way(0, 0, -1), 1);
         city(x, "dark 99");
         due("dark for ever", x.of(0, 7), -5);
+        BridgePairs y = roadWith(0, 0);
+        y.errand(0, 2);
+        city(y, "dark 9");
+        due("at twenty", y.of(0, 7), 20);
+        y.cross(0, 0);
+        y.pass(9);
+        y.errand(0, 4);
+        due("at twenty-one", y.of(0, 7), -5);
+        y.pass(4);
+        city(y, "dark 3");
+        due("hour 13 is not dark", y.on(1, 10), 3);
+        y.pass(5);
+        city(y, "grant 7 h=8");
+        due("hour 18", y.of(0, 10), 10);
     }
 
     private static void questionsChangeNothing() {
